@@ -43,6 +43,8 @@ public final class P03ResolveTest {
     }
 
     private static void otherBases() {
+        dueFrom("a://x/y/z", "/", "a://x/");
+        dueFrom("a:y/z", "/", "a:/");
         dueFrom("a://x", "b", "a://x/b");
         dueFrom("a://x", "../b", "a://x/b");
         dueFrom("a://x", "", "a://x");

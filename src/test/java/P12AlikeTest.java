@@ -29,6 +29,8 @@ public final class P12AlikeTest {
         dueAlike("+0", 2, "-00", 2, 1);
         dueAlike("5", 2, "6", 2, 0);
         dueAlike("5", 2, "50", 2, 0);
+        dueAlike("10", 2, "9", 2, 0);
+        dueAlike("10", 2, "11", 2, 0);
         dueAlike("1", 2, "000000000000000001", 2, 1);
         dueAlike("1", 2, "0000000000000000001", 2, 0);
         dueAlike("+1", 2, "-000000000000000001", 2, 0);

@@ -19,6 +19,7 @@ public final class P14PrintTest {
         dueBoth(s.address("a:b?c#d"), "<a:b?c#d>");
         dueBoth(s.x.label(0), "_:b0");
         dueBoth(s.x.label(7), "_:b7");
+        dueBoth(s.x.label(9), "_:b9");
         dueBoth(s.x.label(10), "_:b10");
         dueBoth(s.x.label(99), "_:b99");
         dueBoth(s.x.label(100), "_:b100");
