@@ -37,47 +37,42 @@ public final class P03ResolveTest {
         }
     }
 
-    private static void dueFrom(String base, String reference, String want) {
-        s.freshWithBase(base);
-        s.dueResolved(reference, want);
-    }
-
     private static void otherBases() {
-        dueFrom("a://x/y/z", "/", "a://x/");
-        dueFrom("a:y/z", "/", "a:/");
-        dueFrom("a://x", "b", "a://x/b");
-        dueFrom("a://x", "../b", "a://x/b");
-        dueFrom("a://x", "", "a://x");
-        dueFrom("a://x?q", "#f", "a://x?q#f");
-        dueFrom("a://x?q#f", "", "a://x?q");
-        dueFrom("a://x?q", "?", "a://x?");
-        dueFrom("a://x?q", "#", "a://x?q#");
-        dueFrom("a://x/y?q", "b", "a://x/b");
-        dueFrom("a://x/y?q", "//", "a://");
-        dueFrom("a://x/y?q", "//?r", "a://?r");
-        dueFrom("a:///y/z", "b", "a:///y/b");
-        dueFrom("a://", "b", "a:///b");
-        dueFrom("a:b", "c", "a:c");
-        dueFrom("a:", "c", "a:c");
-        dueFrom("a:", "/c", "a:/c");
-        dueFrom("a:b/c", "d", "a:b/d");
-        dueFrom("a:b/c", "../d", "a:/d");
-        dueFrom("a:b/c", "..", "a:/");
-        dueFrom("a:b", "..", "a:");
-        dueFrom("a:b/../c?q", "", "a:b/../c?q");
-        dueFrom("a:b/../c?q", "?r", "a:b/../c?r");
-        dueFrom("a:/b?x/y", "d", "a:/d");
-        dueFrom("a:/b#x/y", "d", "a:/d");
-        dueFrom("a:b", "C+1-.:x/../y", "C+1-.:/y");
-        dueFrom("a:b", "1c:d", "a:1c:d");
-        dueFrom("a:b", ":d", "a::d");
-        dueFrom("a:b", "c_d:e", "a:c_d:e");
-        dueFrom("a:b", "%41:e", "a:%41:e");
-        dueFrom("HTTP://A/b", "c", "HTTP://A/c");
-        dueFrom("a:/b", "/.//c", "a://c");
-        dueFrom("a://h/b", "c://i/../j?k#l", "c://i/j?k#l");
-        dueFrom("a://h/b?q#f", "//i/../j?k#l", "a://i/j?k#l");
-        dueFrom("a:b", "x?//y#//z?w#", "a:x?//y#//z?w#");
+        s.dueFrom("a://x/y/z", "/", "a://x/");
+        s.dueFrom("a:y/z", "/", "a:/");
+        s.dueFrom("a://x", "b", "a://x/b");
+        s.dueFrom("a://x", "../b", "a://x/b");
+        s.dueFrom("a://x", "", "a://x");
+        s.dueFrom("a://x?q", "#f", "a://x?q#f");
+        s.dueFrom("a://x?q#f", "", "a://x?q");
+        s.dueFrom("a://x?q", "?", "a://x?");
+        s.dueFrom("a://x?q", "#", "a://x?q#");
+        s.dueFrom("a://x/y?q", "b", "a://x/b");
+        s.dueFrom("a://x/y?q", "//", "a://");
+        s.dueFrom("a://x/y?q", "//?r", "a://?r");
+        s.dueFrom("a:///y/z", "b", "a:///y/b");
+        s.dueFrom("a://", "b", "a:///b");
+        s.dueFrom("a:b", "c", "a:c");
+        s.dueFrom("a:", "c", "a:c");
+        s.dueFrom("a:", "/c", "a:/c");
+        s.dueFrom("a:b/c", "d", "a:b/d");
+        s.dueFrom("a:b/c", "../d", "a:/d");
+        s.dueFrom("a:b/c", "..", "a:/");
+        s.dueFrom("a:b", "..", "a:");
+        s.dueFrom("a:b/../c?q", "", "a:b/../c?q");
+        s.dueFrom("a:b/../c?q", "?r", "a:b/../c?r");
+        s.dueFrom("a:/b?x/y", "d", "a:/d");
+        s.dueFrom("a:/b#x/y", "d", "a:/d");
+        s.dueFrom("a:b", "C+1-.:x/../y", "C+1-.:/y");
+        s.dueFrom("a:b", "1c:d", "a:1c:d");
+        s.dueFrom("a:b", ":d", "a::d");
+        s.dueFrom("a:b", "c_d:e", "a:c_d:e");
+        s.dueFrom("a:b", "%41:e", "a:%41:e");
+        s.dueFrom("HTTP://A/b", "c", "HTTP://A/c");
+        s.dueFrom("a:/b", "/.//c", "a://c");
+        s.dueFrom("a://h/b", "c://i/../j?k#l", "c://i/j?k#l");
+        s.dueFrom("a://h/b?q#f", "//i/../j?k#l", "a://i/j?k#l");
+        s.dueFrom("a:b", "x?//y#//z?w#", "a:x?//y#//z?w#");
     }
 
     private static void plainPaths() {
@@ -91,9 +86,9 @@ public final class P03ResolveTest {
         };
         for (int i = 0; i < pairs.length; i += 2) {
             if (!pairs[i].startsWith("//")) {
-                dueFrom("x:y", "s:" + pairs[i], "s:" + pairs[i + 1]);
+                s.dueFrom("x:y", "s:" + pairs[i], "s:" + pairs[i + 1]);
             }
-            dueFrom("x:y", "s:" + pairs[i] + "?a/../b", "s:" + pairs[i + 1] + "?a/../b");
+            s.dueFrom("x:y", "s:" + pairs[i] + "?a/../b", "s:" + pairs[i + 1] + "?a/../b");
         }
     }
 

@@ -32,22 +32,27 @@ public final class P14PrintTest {
         dueBoth(s.text("5", 2), "\"5\"^^whole");
         dueBoth(s.text("true", 3), "\"true\"^^truth");
         dueBoth(s.text("z", 4), "\"z\"^^other");
+        s.fresh();
         String row = "\\n".repeat(40);
         int longest = s.text(row, 0);
         dueBoth(s.tag("abcdefgh-1234567", longest), "\"" + row + "\"@abcdefgh-1234567");
         dueBoth(s.text(row, 4), "\"" + row + "\"^^other");
     }
 
-    private static void shortForm() {
+    private static void freshWithPrefix() {
         s.fresh();
-        int whole = s.address("s://h/p/");
-        s.name("abcdef", whole);
+        s.due("prefix", s.name("abcdef", s.address("s://h/p/")), 1);
+    }
+
+    private static void shortForm() {
+        freshWithPrefix();
         String[] good = {"", "a", "Az09_-", "-", "_", "9", "zzzzzzzzzzzzzzzzzzzzzzzzzzzz"};
         for (String left : good) {
             int term = s.address("s://h/p/" + left);
             s.due("short of " + left, s.shown(term, 1), "abcdef:" + left);
             s.due("long of " + left, s.shown(term, 0), "<s://h/p/" + left + ">");
         }
+        freshWithPrefix();
         String[] wrong = {"a/", "a/b", "?", "#a", "a.b", "a:", "%41", "a~", "@", "[", "a=", "/", ";"};
         for (String left : wrong) {
             s.due("not short: " + left, s.shown(s.address("s://h/p/" + left), 1), "<s://h/p/" + left + ">");

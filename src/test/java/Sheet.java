@@ -3,13 +3,24 @@ final class Sheet {
     static final int BAD = -1;
     static final int NO = -2;
     static final int FULL = -3;
+    /** Numbers that are never a term, whatever the object holds. */
+    static final int[] NEVER_TERMS = {-1, -2, 60, 61, Integer.MIN_VALUE, Integer.MAX_VALUE};
 
-    AddressTerms x = new AddressTerms();
+    Counted x = new Counted();
+    private String sentence = "";
+    private int sentences = 0;
     private int checks = 0;
     private int wrong = 0;
 
     void fresh() {
-        x = new AddressTerms();
+        x = new Counted();
+    }
+
+    /** Begins the test of one sentence of the document, on a new object. */
+    void sentence(String words) {
+        fresh();
+        sentence = "'" + words + "': ";
+        sentences++;
     }
 
     static long packed(String text) {
@@ -83,6 +94,28 @@ final class Sheet {
         due(reference + " resolved", term < 0 ? Integer.toString(term) : shown(term, 0), "<" + want + ">");
     }
 
+    /** What a reference becomes against a base, on a new object; no base at all, if that is null. */
+    void dueFrom(String base, String reference, String want) {
+        if (base == null) {
+            fresh();
+        } else {
+            freshWithBase(base);
+        }
+        dueResolved(reference, want);
+    }
+
+    void dueParts(int term, int... want) {
+        for (int what = 0; what < want.length; what++) {
+            due("part(" + term + ", " + what + ")", x.part(term, what), want[what]);
+        }
+    }
+
+    void dueCounts(int terms, int prefixes, int bytes) {
+        due("count(0)", x.count(0), terms);
+        due("count(1)", x.count(1), prefixes);
+        due("count(2)", x.count(2), bytes);
+    }
+
     void due(String call, long got, long want) {
         due(call, Long.toString(got), Long.toString(want));
     }
@@ -91,12 +124,13 @@ final class Sheet {
         checks++;
         if (!got.equals(want)) {
             wrong++;
-            System.out.println(call + " answered " + got + ", due is " + want);
+            System.out.println(sentence + call + " answered " + got + ", due is " + want);
         }
     }
 
     void end() {
-        System.out.println(checks + " checks, " + wrong + " wrong");
+        String of = sentences == 0 ? "" : " of " + sentences + " sentences";
+        System.out.println(checks + " checks" + of + ", " + wrong + " wrong");
         if (wrong != 0 || checks == 0) {
             System.exit(1);
         }
