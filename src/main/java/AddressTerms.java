@@ -48,8 +48,8 @@ public final class AddressTerms {
 
     /** A base, a reference and the / between them: more than that no resolving brings together. */
     private static final int RESOLVING_ROOM = LONGEST_ADDRESS + TAPE_ROOM + 1;
-    /** Enough for an address in < >, and for a text all of escapes with the longest tag. */
-    private static final int PRINT_ROOM = 2 * LONGEST_TEXT + LONGEST_TAG + 8;
+    /** Enough for a name, a : and an address; that is more than a text all of escapes with a tag. */
+    private static final int PRINT_ROOM = LONGEST_NAME + LONGEST_ADDRESS + 2;
 
     private static final String NOT_IN_REFERENCES = "\"<>\\^`{|}";
 
