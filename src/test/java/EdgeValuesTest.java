@@ -63,6 +63,10 @@ public final class EdgeValuesTest {
         dueWhole("7", "70", 0);
         dueWhole("7", "77", 0);
         dueWhole("12", "21", 0);
+        dueWhole("10", "9", 0);
+        dueWhole("10", "8", 0);
+        dueWhole("19", "20", 0);
+        dueWhole("90", "100", 0);
         dueWhole("0", "00", 1);
         dueWhole("0", "1", 0);
         dueWhole("9", "+9", 1);
