@@ -106,6 +106,10 @@ public final class EdgeResolvedTest {
         s.sentence("B's path up to its last /");
         s.dueFrom("a:p?x/y", "b", "a:b");
         s.dueFrom("a:p#x/y", "b", "a:b");
+        s.dueFrom("a:p?/y", "b", "a:b");
+        s.dueFrom("a:p#/y", "b", "a:b");
+        s.dueFrom("a:/p?/", "b", "a:/b");
+        s.dueFrom("a:?/", "b", "a:b");
         s.dueFrom("a:/p?x/y#z/", "b", "a:/b");
         s.dueFrom("a://h?x/y", "b", "a://h/b");
     }
