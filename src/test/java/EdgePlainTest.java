@@ -9,6 +9,7 @@ public final class EdgePlainTest {
         slashDotDot();
         dotsAlone();
         allElse();
+        outIsIt();
         onlyPathsOfReferences();
         longest();
         s.end();
@@ -114,6 +115,20 @@ public final class EdgePlainTest {
         s.dueFrom("x:y", "s://h//a", "s://h//a");
         s.dueFrom("x:y", "s://h//..", "s://h/");
         s.dueFrom("x:y", "s://h//../a", "s://h/a");
+    }
+
+    /** What OUT has got by then is not looked at again, even where it has dots. */
+    private static void outIsIt() {
+        s.sentence("Then OUT is it");
+        duePlain("a/..//../b", "/b");
+        duePlain("a/../..", "/");
+        duePlain("a/.././..b/..", "/");
+        duePlain(".a/..", "/");
+        duePlain("..a/../..b", "/..b");
+        s.freshWithBase("x:y");
+        s.dueResolved("s:a/../b", "s:/b");
+        s.due("by itself", s.address("s:/b"), 1);
+        s.due("by another path", s.address("s:/./c/../b"), 1);
     }
 
     /** Without a base nothing is resolved, and what is no path is never made PLAIN. */

@@ -6,6 +6,7 @@ public final class EdgeReferenceTest {
     public static void main(String[] args) {
         bytes();
         percent();
+        fromItsBeginning();
         scheme();
         schemeBytes();
         authority();
@@ -54,6 +55,17 @@ public final class EdgeReferenceTest {
         s.due("at the beginning", s.address("%4"), -10);
         s.due("at the end", s.address("a:" + "b".repeat(91) + "%4f"), 0);
         s.due("too late", s.address("a:" + "b".repeat(92) + "%4"), -104);
+    }
+
+    /** A part's mark that stands in a later part begins nothing there. */
+    private static void fromItsBeginning() {
+        s.sentence("Its parts, from its beginning");
+        s.dueParts(s.address("a:b:c"), 1, NO, 3, NO, NO);
+        s.dueParts(s.address("a:b://c"), 1, NO, 5, NO, NO);
+        s.dueParts(s.address("a://b//c"), 1, 1, 3, NO, NO);
+        s.dueParts(s.address("a:b?c//d?e"), 1, NO, 1, 6, NO);
+        s.dueParts(s.address("a:b#c//d?e#f"), 1, NO, 1, NO, 8);
+        s.dueParts(s.address("a://b:c?d#e"), 1, 3, 0, 1, 1);
     }
 
     private static void scheme() {

@@ -3,17 +3,56 @@ public final class EdgeResolvedTest {
     private static final Sheet s = new Sheet();
 
     public static void main(String[] args) {
+        ofTheseParts();
         withScheme();
         withAuthority();
+        authorityOfTheBase();
         emptyPath();
         pathFromTop();
         otherPath();
         ofSlashAlone();
         ofNothing();
         lastSlashOfPathOnly();
+        oneBehindTheOther();
         ownQuery();
         ownFragment();
         s.end();
+    }
+
+    private static void ofTheseParts() {
+        s.sentence("RESOLVED against an address B, a reference becomes that of these parts");
+        s.freshWithBase("a://hh/ppp?qqqq#fffff");
+        s.dueParts(s.address("b://i/j?k#l"), 1, 1, 2, 1, 1);
+        s.dueParts(s.address("//i/j?k#l"), 1, 1, 2, 1, 1);
+        s.dueParts(s.address("/j?k#l"), 1, 2, 2, 1, 1);
+        s.dueParts(s.address("jj?k#l"), 1, 2, 3, 1, 1);
+        s.dueParts(s.address("?k#l"), 1, 2, 4, 1, 1);
+        s.dueParts(s.address("#l"), 1, 2, 4, 4, 1);
+        s.dueParts(s.address(""), 1, 2, 4, 4, Sheet.NO);
+    }
+
+    private static void authorityOfTheBase() {
+        s.sentence("Otherwise the authority of B");
+        for (String reference : new String[] {"", "?r", "#g", "/b", "b", "../b", "."}) {
+            s.freshWithBase("a://hhh/p");
+            s.due("three bytes", s.x.part(s.address(reference), 1), 3);
+            s.freshWithBase("a:///p");
+            s.due("an empty one", s.x.part(s.address(reference), 1), 0);
+            s.freshWithBase("a:/p");
+            s.due("none", s.x.part(s.address(reference), 1), Sheet.NO);
+        }
+    }
+
+    private static void oneBehindTheOther() {
+        s.sentence("and it, one behind the other");
+        s.dueFrom("a:p/", "b/c", "a:p/b/c");
+        s.dueFrom("a:p/", "b:c", "b:c");
+        s.dueFrom("a:p/", "./b:c", "a:p/b:c");
+        s.dueFrom("a:p/", "..b", "a:p/..b");
+        s.dueFrom("a:p/..", ".", "a:p/");
+        s.dueFrom("a:p/.x", "..", "a:/");
+        s.dueFrom("a:p", "b", "a:b");
+        s.dueFrom("a://h", "b//c", "a://h/b//c");
     }
 
     private static void withScheme() {
